@@ -1,5 +1,3 @@
-import java.util.Arrays;
-
 /**
  * Rules of a family of grid puzzles as a text: read, or refused at the first wrong place, printed,
  * and unrolled over a grid to primitive rows of places.
@@ -590,7 +588,9 @@ public final class RuleReader {
         void begin(int size) {
             drop();
             gridSize = size;
-            Arrays.fill(touched, false);
+            for (int place = 0; place < touched.length; place++) {
+                touched[place] = false;
+            }
         }
 
         /** Begins a row of that many places, which addPlace then brings; false: too much. */
@@ -847,11 +847,21 @@ public final class RuleReader {
 
         /** Copies the set to the room, rising by key; those of one key keep their order. */
         private void sortByKey(Layer layer, int from, int size, int room) {
-            Arrays.fill(keyEnds, 0);
+            int least = KEYS;
+            int greatest = NONE;
+            for (int i = from; i < from + size; i++) {
+                int key = keyOf(layer, at(i));
+                least = Math.min(least, key);
+                greatest = Math.max(greatest, key);
+            }
+            // Most sets are small, so only the keys between their own ones are gone through.
+            for (int key = least; key <= greatest; key++) {
+                keyEnds[key] = 0;
+            }
             for (int i = from; i < from + size; i++) {
                 keyEnds[keyOf(layer, at(i))]++;
             }
-            for (int key = 1; key < KEYS; key++) {
+            for (int key = least + 1; key <= greatest; key++) {
                 keyEnds[key] += keyEnds[key - 1];
             }
             for (int i = from + size - 1; i >= from; i--) {

@@ -39,6 +39,7 @@ public final class ReadTest {
         reads("where odd where even where border where inner equal", 1);
         reads("each row{equal;where odd{rising;falling};equal};equal", 5);
         reads("each block 2 3{equal}", 1);
+        reads("sum=1;".repeat(332) + "sum=1", 333);
     }
 
     private static void wrongBytesAndNumbers() {
@@ -71,6 +72,9 @@ public final class ReadTest {
     private static void wrongTokens() {
         refuses("unlik", 0);
         refuses("unlikee", 0);
+        refuses("enlike", 0);
+        refuses("each rowz equal", 5);
+        refuses("each arow equal", 5);
         refuses("row", 0);
         refuses("odd", 0);
         refuses("5", 0);
@@ -140,6 +144,7 @@ public final class ReadTest {
         refuses("{unlike", 7);
         refuses("unlike;", 7);
         refuses("unlike; ", 8);
+        refuses("sum=1;".repeat(333), 1998);
     }
 
     private static void depths() {
