@@ -8,10 +8,13 @@ public final class AnyCallsTest {
     public static void main(String[] args) {
         Random random = new Random(7L);
         Texts texts = new Texts(random);
-        for (int object = 0; object < 400; object++) {
+        for (int object = 0; object < 2000; object++) {
             RuleReader reader = new RuleReader();
-            for (int call = 0; call < 512; call++) {
-                anyCall(reader, random, texts);
+            int calls = 0;
+            while (calls < Reader.MOST_CALLS) {
+                String text = texts.group(random.nextInt(5));
+                boolean fits = calls + text.length() + 2 <= Reader.MOST_CALLS;
+                calls += fits && random.nextInt(6) == 0 ? anyText(reader, text) : anyCall(reader, random);
             }
         }
         Check.end();
@@ -21,10 +24,21 @@ public final class AnyCallsTest {
         return random.nextInt(4) == 0 ? EDGES[random.nextInt(EDGES.length)] : random.nextInt(20);
     }
 
-    private static void anyCall(RuleReader reader, Random random, Texts texts) {
+    /** Reads a new text; tells how many calls that were. */
+    private static int anyText(RuleReader reader, String text) {
+        reader.clear();
+        for (char c : text.toCharArray()) {
+            reader.unit(c);
+        }
+        reader.read();
+        return text.length() + 2;
+    }
+
+    /** Makes one call; tells that it was one. */
+    private static int anyCall(RuleReader reader, Random random) {
         int a = any(random);
         int b = any(random);
-        switch (random.nextInt(13)) {
+        switch (random.nextInt(11)) {
             case 0:
                 reader.unit(random.nextInt(300) - 20);
                 break;
@@ -56,17 +70,11 @@ public final class AnyCallsTest {
             case 9:
                 reader.depth();
                 break;
-            case 10:
-                reader.clear();
-                break;
             default:
                 reader.clear();
-                for (char c : texts.group(random.nextInt(5)).toCharArray()) {
-                    reader.unit(c);
-                }
-                reader.read();
                 break;
         }
+        return 1;
     }
 
     private static void allows(String outcome, String... names) {

@@ -3,6 +3,9 @@ import java.util.Random;
 
 /** All promises, over many made-up texts and grids, against the naive reading of the document. */
 public final class NaiveTest {
+    // Such a text leaves enough of the 512 calls for questions.
+    private static final int LONGEST = 400;
+
     private static int read = 0;
     private static int refused = 0;
     private static int unrolled = 0;
@@ -11,21 +14,20 @@ public final class NaiveTest {
     public static void main(String[] args) {
         Random random = new Random(20261115L);
         Texts texts = new Texts(random);
-        RuleReader reader = new RuleReader();
         for (int i = 0; i < 30000; i++) {
             String text = i % 10 == 0 ? texts.soup(random.nextInt(12)) : texts.group(random.nextInt(6));
             if (random.nextInt(3) == 0) {
                 text = texts.spoilt(text);
             }
-            if (text.length() <= 2000) {
-                compare(reader, text, random, i % 3 == 0 ? 16 : 5);
+            if (text.length() < LONGEST) {
+                compare(text, random, i % 3 == 0 ? 16 : 5);
             }
         }
         for (int i = 0; i < 1500; i++) {
-            compare(reader, texts.layered(), random, 16);
+            compare(texts.layered(), random, 16);
         }
         for (int depth = 36; depth <= 44; depth++) {
-            compareDeep(reader, depth, random);
+            compareDeep(depth, random);
         }
         atLeast("texts that are read", read, 5000);
         atLeast("texts that are refused", refused, 5000);
@@ -38,7 +40,7 @@ public final class NaiveTest {
         Check.same(what + " (at least " + due + ")", Math.min(seen, due), due);
     }
 
-    private static void compareDeep(RuleReader reader, int depth, Random random) {
+    private static void compareDeep(int depth, Random random) {
         for (int i = 0; i < 200; i++) {
             StringBuilder text = new StringBuilder();
             int braces = 0;
@@ -48,14 +50,13 @@ public final class NaiveTest {
                 braces += choice == 0 ? 1 : 0;
             }
             text.append("equal").append("}".repeat(braces));
-            compare(reader, text.toString(), random, 16);
+            compare(text.toString(), random, 16);
         }
     }
 
-    private static void compare(RuleReader reader, String text, Random random, int side) {
+    private static void compare(String text, Random random, int side) {
         Naive naive = new Naive(text);
-        reader.clear();
-        Check.feed(reader, text);
+        Reader reader = Check.holding(text);
         String of = " of '" + text + "'";
         Check.same("read" + of, reader.read(), naive.refused >= 0 ? -1 - naive.refused : naive.rules.size());
         Check.same("print" + of, Check.printed(reader), naive.printed);
@@ -77,7 +78,7 @@ public final class NaiveTest {
         compareRows(reader, naive, 1 + random.nextInt(side), 1 + random.nextInt(side), of);
     }
 
-    private static void compareRows(RuleReader reader, Naive naive, int width, int height, String text) {
+    private static void compareRows(Reader reader, Naive naive, int width, int height, String text) {
         String of = text + " over " + width + " by " + height;
         List<Naive.NaiveRow> rows = naive.unroll(width, height);
         if (rows == null) {

@@ -1,20 +1,29 @@
-/** Promise 1: no text; nothing read. */
+/** Promise 1, sentence by sentence. */
 public final class NewObjectTest {
+    private static final String PROMISE = "Promise 1: A new object";
+
     public static void main(String[] args) {
-        RuleReader reader = new RuleReader();
-        Check.same("depth", reader.depth(), 0);
-        Check.same("write(0)", reader.write(0), -1);
-        Check.same("free(0)", reader.free(0), -1);
-        for (int kind = 0; kind <= 9; kind++) {
-            Check.same("given", reader.given(kind), 0);
-        }
-        Check.throwing("line(0)", IndexOutOfBoundsException.class, () -> reader.line(0));
-        Check.throwing("row(0, 0)", IndexOutOfBoundsException.class, () -> reader.row(0, 0));
-        Check.throwing("place(0, 0)", IndexOutOfBoundsException.class, () -> reader.place(0, 0));
-        Check.throwing("rows", IllegalStateException.class, () -> reader.rows(3, 3));
-        Check.same("read of no text", reader.read(), 0);
-        Check.same("a text of the first object is not the second one's",
-                Check.holding("unlike").read() * 10 + new RuleReader().read(), 10);
+        Check.sentence(PROMISE, "No text", NewObjectTest::noText);
+        Check.sentence(PROMISE, "nothing read", NewObjectTest::nothingRead);
         Check.end();
+    }
+
+    private static void noText() {
+        Check.same("read of no text", new Reader().read(), 0);
+        Reader reader = new Reader();
+        reader.unit('?');
+        Check.same("the first byte's place is 0", reader.read(), -1);
+        Reader other = Check.holding("equal;");
+        Reader fresh = Check.holding("rising");
+        Check.same("another object's text is not this one's", fresh.read(), 1);
+        Check.same("and the other way round", other.read(), -7);
+    }
+
+    private static void nothingRead() {
+        Check.nothingIsRead("of a new object", new Reader());
+        Check.nothingIsRead("of a text that is not read", Check.holding("{given 1}"));
+        Reader other = Check.reading("{given 1}");
+        other.rows(2, 2);
+        Check.nothingIsRead("when another object has read", new Reader());
     }
 }
