@@ -6,6 +6,7 @@ public final class ReadTest {
         Check.sentence(PROMISE, "how many RULES", ReadTest::howManyRules);
         Check.sentence(PROMISE, "or -1 less the place where it is REFUSED", ReadTest::minusOneLessThePlace);
         Check.sentence(PROMISE, "(nothing is read then)", ReadTest::nothingIsReadThen);
+        Check.sentence(PROMISE, "(nothing is read then)", ReadTest::nothingIsLeftForTheNextRead);
         Check.sentence(PROMISE, "Rows that were unrolled are gone", ReadTest::rowsAreGone);
         Check.sentence(PROMISE, "The text is read", ReadTest::theTextStays);
         Check.end();
@@ -45,6 +46,32 @@ public final class ReadTest {
         reader.clear();
         Check.same("read of no text", reader.read(), 0);
         Check.same("something is read again", reader.rows(2, 2), 0);
+    }
+
+    /** Wherever the text before is refused, the next one is read as by a new object. */
+    private static void nothingIsLeftForTheNextRead() {
+        String[] refused = {"?", "{given 4;{given 4;?", "equal 5", "given 10", "given5", "sum=1234567", "each",
+            "each block 1", "count 3<", "equal;", "{".repeat(41), "{".repeat(40), "each row ".repeat(20)};
+        for (String before : refused) {
+            Reader reader = Check.holding(before);
+            String of = " behind '" + before + "'";
+            Check.same("refused" + of, reader.read() < 0, true);
+            reader.clear();
+            Check.feed(reader, "given 3;{}");
+            Check.same("read" + of, reader.read(), 1);
+            Check.same("print" + of, Check.printed(reader), "given 3 ; { }");
+            Check.same("depth" + of, reader.depth(), 1);
+            Check.same("given(3)" + of, reader.given(3), 1);
+            Check.same("given(4)" + of, reader.given(4), 0);
+            Check.same("line(0)" + of, reader.line(0), 0);
+            Check.outside("line" + of, 1, reader::line);
+            Check.same("rows" + of, reader.rows(2, 1), 1);
+            Check.same("places" + of, Check.places(reader), "0,1");
+            reader.clear();
+            Check.feed(reader, "{".repeat(40) + "}".repeat(40));
+            Check.same("read of the deepest text" + of, reader.read(), 0);
+            Check.same("depth of the deepest text" + of, reader.depth(), 40);
+        }
     }
 
     private static void rowsAreGone() {
