@@ -12,6 +12,8 @@ public final class RuleReader {
     private static final int MOST_GIVEN = 9;
     // The shortest RULE has five bytes, so that no text has more of them.
     private static final int MOST_RULES = MOST_BYTES / 5;
+    // Each token has a byte or more, but for THE END.
+    private static final int MOST_TOKENS = MOST_BYTES + 1;
     private static final int MOST_ROWS = 4000;
     private static final int MOST_ROW_PLACES = 30000;
     private static final int MOST_SETS = 6000;
@@ -217,7 +219,10 @@ public final class RuleReader {
         }
     }
 
-    /** The tokens of a text, one at a time; what is no token, or touches one it may not, is WRONG. */
+    /**
+     * The tokens of a text, cut all at once and then looked at one after the other. The last one is
+     * END, or WRONG: the first that is no token, or touches one it may not.
+     */
     private static final class Tokens {
         private static final int END = 0;
         private static final int WORD = 1;
@@ -226,6 +231,15 @@ public final class RuleReader {
         private static final int WRONG = 4;
 
         private final Text text;
+        private final int[] sorts = new int[MOST_TOKENS];
+        private final int[] starts = new int[MOST_TOKENS];
+        private final int[] ends = new int[MOST_TOKENS];
+        private final int[] values = new int[MOST_TOKENS];
+        private final Word[] words = new Word[MOST_TOKENS];
+        private int count;
+        private int next;
+
+        // Of the token that is cut, or stands next; the value is a number's own, or a sign's byte.
         private int sort;
         private int start;
         private int end;
@@ -236,13 +250,64 @@ public final class RuleReader {
             this.text = text;
         }
 
-        void restart() {
-            sort = END;
+        /** Cuts the text anew; its first token is the one that stands next then. */
+        void cut() {
+            count = 0;
+            // The first token touches none; as a sign may be touched by any, one is pretended there.
+            sort = SIGN;
             end = 0;
+            for (int i = 0; i < MOST_TOKENS && sort != END && sort != WRONG; i++) {
+                scan();
+                keep(i);
+            }
+            next = NONE;
             advance();
         }
 
         void advance() {
+            int i = next + 1;
+            if (i < 0 || i >= count || i >= MOST_TOKENS) {
+                return;
+            }
+            next = i;
+            sort = sorts[i];
+            start = starts[i];
+            value = values[i];
+            word = words[i];
+        }
+
+        void printTo(Book book) {
+            // The last one is THE END (or wrong), which is not printed.
+            for (int i = 0; i < count - 1 && i < MOST_TOKENS; i++) {
+                book.print(text, starts[i], ends[i]);
+            }
+        }
+
+        boolean isTheSign(char sign) {
+            return sort == SIGN && value == sign;
+        }
+
+        boolean isTheWord(Word wanted) {
+            return sort == WORD && word == wanted;
+        }
+
+        boolean isWordOf(int role) {
+            return sort == WORD && word != null && word.role == role;
+        }
+
+        private void keep(int i) {
+            if (i < 0 || i >= MOST_TOKENS) {
+                return;
+            }
+            sorts[i] = sort;
+            starts[i] = start;
+            ends[i] = end;
+            values[i] = value;
+            words[i] = word;
+            count = i + 1;
+        }
+
+        private void scan() {
             int lastSort = sort;
             int lastEnd = end;
             start = behindBlanks(lastEnd);
@@ -258,23 +323,12 @@ public final class RuleReader {
                 scanNumber();
             } else {
                 sort = isSign(first) ? SIGN : WRONG;
+                value = first;
                 end = start + 1;
             }
             if (start == lastEnd && mayNotTouch(lastSort, sort)) {
                 sort = WRONG;
             }
-        }
-
-        boolean isTheSign(char sign) {
-            return sort == SIGN && text.at(start) == sign;
-        }
-
-        boolean isTheWord(Word wanted) {
-            return sort == WORD && word == wanted;
-        }
-
-        boolean isWordOf(int role) {
-            return sort == WORD && word != null && word.role == role;
         }
 
         private int behindBlanks(int from) {
@@ -424,28 +478,25 @@ public final class RuleReader {
      * number: -1) and leaves the token that may not be there as the one that stands next.
      */
     private static final class Parser {
-        private final Text text;
         private final Book book;
         private final Tokens tokens;
 
         Parser(Text text, Book book) {
-            this.text = text;
             this.book = book;
             this.tokens = new Tokens(text);
         }
 
         boolean parse() {
-            tokens.restart();
-            return takeGroup(0, null) && tokens.sort == Tokens.END;
+            tokens.cut();
+            if (!takeGroup(0, null) || tokens.sort != Tokens.END) {
+                return false;
+            }
+            tokens.printTo(book);
+            return true;
         }
 
         int refusedAt() {
             return tokens.start;
-        }
-
-        private void take() {
-            book.print(text, tokens.start, tokens.end);
-            tokens.advance();
         }
 
         private boolean takeGroup(int depth, Layer around) {
@@ -459,7 +510,7 @@ public final class RuleReader {
                 if (!tokens.isTheSign(';')) {
                     return true;
                 }
-                take();
+                tokens.advance();
             }
             return false;
         }
@@ -477,17 +528,17 @@ public final class RuleReader {
         }
 
         private boolean takeBraced(int depth, Layer around) {
-            take();
+            tokens.advance();
             if (!takeGroup(depth, around) || !tokens.isTheSign('}')) {
                 return false;
             }
-            take();
+            tokens.advance();
             return true;
         }
 
         private boolean takeLayered(int depth, Layer around) {
             int role = tokens.isTheWord(Word.EACH) ? ROLE_SHAPE : ROLE_FILTER;
-            take();
+            tokens.advance();
             Layer layer = tokens.isWordOf(role) ? takeLayer(around) : null;
             return layer != null && takeStatement(depth, layer);
         }
@@ -495,7 +546,7 @@ public final class RuleReader {
         /** The SHAPE or FILTER that stands next, with its numbers; null when one of them is wrong. */
         private Layer takeLayer(Layer around) {
             Word word = tokens.word;
-            take();
+            tokens.advance();
             int first = NONE;
             int second = NONE;
             if (word == Word.BLOCK || word == Word.WINDOW) {
@@ -519,23 +570,24 @@ public final class RuleReader {
                 return false;
             }
             Rule rule = new Rule(word.code, tokens.start, around);
-            take();
-            return takeNumbers(rule) && book.add(rule);
-        }
-
-        private boolean takeNumbers(Rule rule) {
+            tokens.advance();
+            boolean whole = true;
             switch (rule.kind) {
                 case KIND_SUM:
-                    return takeComparison(rule);
+                    whole = takeComparison(rule);
+                    break;
                 case KIND_COUNT:
                     rule.counted = takeNumber(0, MOST_NUMBER);
-                    return rule.counted != NONE && takeComparison(rule);
+                    whole = rule.counted != NONE && takeComparison(rule);
+                    break;
                 case KIND_GIVEN:
                     rule.number = takeNumber(0, MOST_GIVEN);
-                    return rule.number != NONE;
+                    whole = rule.number != NONE;
+                    break;
                 default:
-                    return true;
+                    break;
             }
+            return whole && book.add(rule);
         }
 
         private boolean takeComparison(Rule rule) {
@@ -543,7 +595,7 @@ public final class RuleReader {
             if (rule.comparison == NONE) {
                 return false;
             }
-            take();
+            tokens.advance();
             rule.number = takeNumber(0, MOST_NUMBER);
             return rule.number != NONE;
         }
@@ -563,7 +615,7 @@ public final class RuleReader {
             if (tokens.sort != Tokens.NUMBER || value < least || value > most) {
                 return NONE;
             }
-            take();
+            tokens.advance();
             return value;
         }
     }

@@ -15,6 +15,8 @@ public final class RefusedTermTest {
         Check.sentence(REFUSED, "of a word and a number that touch the second one", RefusedTermTest::touching);
         Check.sentence(REFUSED, "a token (or THE END) that may not be there, also a number that is not in its bounds",
                 RefusedTermTest::everyTokenEverywhere);
+        Check.sentence(REFUSED, "a token (or THE END) that may not be there, also a number that is not in its bounds",
+                RefusedTermTest::numbersThatAreSignsBytes);
         Check.sentence(REFUSED, "an each, where or { that would be 41 deep", RefusedTermTest::tooDeep);
         Check.sentence(REFUSED, "Of a text that ends within a statement the place is that of THE END",
                 RefusedTermTest::textsThatEnd);
@@ -166,6 +168,18 @@ public final class RefusedTermTest {
         int answer = Check.holding(before + " ").read();
         Check.same("read of '" + before + " ' (" + answer + ") refuses THE END",
                 answer == -1 - (before.length() + 1), !theEnd);
+    }
+
+    private static void numbersThatAreSignsBytes() {
+        for (char sign : ";{}=<>".toCharArray()) {
+            String number = Integer.toString(sign);
+            Check.refuses(number, 0);
+            Check.refuses("equal " + number + " equal", 6);
+            Check.refuses("{equal " + number, 7);
+            Check.refuses("each row " + number + " equal}", 9);
+            Check.refuses("sum " + number + " 1", 4);
+            Check.refuses("count 1 " + number + " 1", 8);
+        }
     }
 
     private static void tooDeep() {
